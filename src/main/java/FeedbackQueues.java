@@ -329,7 +329,7 @@ public final class FeedbackQueues {
         task.shareLeft--;
         if (task.burstLeft == 0) {
             blockOrEnd(task);
-        } else if (task.shareLeft <= 0) {
+        } else if (task.shareLeft <= 0) { // below 0 when the burst before used it up
             sendDown(task);
         } else if (task.quantumLeft == 0) {
             standAtEnd(task);
