@@ -1,16 +1,5 @@
 /** Each promise by runs that were worked out by hand: ordinary inputs, edges, wrong inputs. */
-public final class PromiseTest {
-    private static final Class<?> INDEX = IndexOutOfBoundsException.class;
-    private static final Class<?> ARGUMENT = IllegalArgumentException.class;
-    private static final Class<?> STATE = IllegalStateException.class;
-
-    private static int wrong = 0;
-    private static String part = "";
-
-    private interface Call {
-        int answer();
-    }
-
+public final class PromiseTest extends Checks {
     public static void main(String[] args) {
         newObject();
         levels();
@@ -44,17 +33,14 @@ public final class PromiseTest {
         frontQuantumIsUsedOnce();
         frontOfLongerQueue();
         fullHouse();
-        System.out.println(wrong == 0 ? "all promises hold" : wrong + " answers are not as due");
-        if (wrong != 0) {
-            System.exit(1);
-        }
+        finish("all promises hold");
     }
 
     // Promise 1
 
     private static void newObject() {
-        part = "1 new object";
-        FeedbackQueues x = new FeedbackQueues();
+        part("1 new object");
+        Counted x = new Counted();
         due("NONE", -1, FeedbackQueues.NONE);
         due("time", 0, x.time());
         due("running", -1, x.running());
@@ -73,10 +59,10 @@ public final class PromiseTest {
     // Promise 2
 
     private static void levels() {
-        part = "2 levels";
-        FeedbackQueues x = new FeedbackQueues();
+        part("2 levels");
+        Counted x = new Counted();
         for (int n : new int[] {0, 7, -1, Integer.MIN_VALUE, Integer.MAX_VALUE}) {
-            refused("levels(" + n + ")", ARGUMENT, () -> { x.levels(n); return 0; });
+            refused("levels(" + n + ")", ARGUMENT, () -> x.levels(n));
         }
         for (int n = 1; n <= 6; n++) {
             x.levels(n);
@@ -96,13 +82,13 @@ public final class PromiseTest {
     }
 
     private static void levelsForgetProcesses() {
-        part = "2 levels forget";
-        FeedbackQueues x = new FeedbackQueues();
+        part("2 levels forget");
+        Counted x = new Counted();
         x.period(4);
         addProcess(x, 0, 3, 5, 2);
         addProcess(x, 0, 3);
         x.run(6);
-        refused("levels(9)", ARGUMENT, () -> { x.levels(9); return 0; });
+        refused("levels(9)", ARGUMENT, () -> x.levels(9));
         due("time stays when refused", 6, x.time());
         due("process stays when refused", 3, x.told(1, 2));
         x.levels(1);
@@ -124,8 +110,8 @@ public final class PromiseTest {
     // Promise 3
 
     private static void level() {
-        part = "3 level";
-        FeedbackQueues x = new FeedbackQueues();
+        part("3 level");
+        Counted x = new Counted();
         x.levels(2);
         levelRefused(x, INDEX, -1, 1, 1);
         levelRefused(x, INDEX, 2, 1, 1);
@@ -153,7 +139,7 @@ public final class PromiseTest {
     }
 
     private static void largestLevel() {
-        FeedbackQueues x = new FeedbackQueues();
+        Counted x = new Counted();
         x.levels(2);
         x.level(0, 100, 1000);
         addProcess(x, 0, 5000);
@@ -167,15 +153,15 @@ public final class PromiseTest {
         due("level at 1000", 1, x.told(0, 1));
     }
 
-    private static void levelRefused(FeedbackQueues x, Class<?> by, int level, int quantum, int share) {
-        refused("level(" + level + ", " + quantum + ", " + share + ")", by, () -> { x.level(level, quantum, share); return 0; });
+    private static void levelRefused(Counted x, String by, int level, int quantum, int share) {
+        refused("level(" + level + ", " + quantum + ", " + share + ")", by, () -> x.level(level, quantum, share));
     }
 
     // Promise 4
 
     private static void period() {
-        part = "4 period";
-        FeedbackQueues x = new FeedbackQueues();
+        part("4 period");
+        Counted x = new Counted();
         periodRefused(x, ARGUMENT, -1);
         periodRefused(x, ARGUMENT, 10001);
         x.period(1);
@@ -200,15 +186,15 @@ public final class PromiseTest {
         due("never", 0, x.all(2));
     }
 
-    private static void periodRefused(FeedbackQueues x, Class<?> by, int period) {
-        refused("period(" + period + ")", by, () -> { x.period(period); return 0; });
+    private static void periodRefused(Counted x, String by, int period) {
+        refused("period(" + period + ")", by, () -> x.period(period));
     }
 
     // Promise 5
 
     private static void process() {
-        part = "5 process";
-        FeedbackQueues x = new FeedbackQueues();
+        part("5 process");
+        Counted x = new Counted();
         refused("process(-1)", ARGUMENT, () -> x.process(-1));
         refused("process(20001)", ARGUMENT, () -> x.process(20001));
         for (int i = 0; i < 16; i++) {
@@ -236,8 +222,8 @@ public final class PromiseTest {
     // Promise 6
 
     private static void burst() {
-        part = "6 burst";
-        FeedbackQueues x = new FeedbackQueues();
+        part("6 burst");
+        Counted x = new Counted();
         refused("no process", INDEX, () -> x.burst(0, 1));
         x.process(0);
         x.process(0);
@@ -268,8 +254,8 @@ public final class PromiseTest {
     // Promise 7
 
     private static void run() {
-        part = "7 run";
-        FeedbackQueues x = new FeedbackQueues();
+        part("7 run");
+        Counted x = new Counted();
         refused("run(-1)", ARGUMENT, () -> x.run(-1));
         refused("run(30001)", ARGUMENT, () -> x.run(30001));
         addProcess(x, 3, 2, 4, 1);
@@ -284,8 +270,8 @@ public final class PromiseTest {
     }
 
     private static void runLimits() {
-        part = "7 run limits";
-        FeedbackQueues x = new FeedbackQueues();
+        part("7 run limits");
+        Counted x = new Counted();
         due("30000", 30000, x.run(30000));
         due("60000", 30000, x.run(30000));
         due("90000", 30000, x.run(30000));
@@ -304,8 +290,8 @@ public final class PromiseTest {
     // Promise 8
 
     private static void restart() {
-        part = "8 restart";
-        FeedbackQueues x = mixed();
+        part("8 restart");
+        Counted x = mixed();
         String first = timeline(x, 25);
         String state = stateOf(x);
         x.restart();
@@ -319,18 +305,22 @@ public final class PromiseTest {
         }
         allDue(x, 0, 0, 0, 0);
         refused("switched(0)", INDEX, () -> x.switched(0));
-        sameText("timeline", first, timeline(x, 25));
-        sameText("state", state, stateOf(x));
-        // In the midst of a run with one running, one blocked and one ready.
-        x.restart();
-        x.run(7);
-        x.restart();
-        sameText("timeline after a stop midway", first, timeline(x, 25));
-        sameText("state after a stop midway", state, stateOf(x));
+        same("timeline", first, timeline(x, 25));
+        same("state", state, stateOf(x));
+        restartMidway(first, state);
     }
 
-    private static FeedbackQueues mixed() {
-        FeedbackQueues x = new FeedbackQueues();
+    /** With one running, one blocked and one ready. */
+    private static void restartMidway(String first, String state) {
+        Counted x = mixed();
+        x.run(7);
+        x.restart();
+        same("timeline after a stop midway", first, timeline(x, 25));
+        same("state after a stop midway", state, stateOf(x));
+    }
+
+    private static Counted mixed() {
+        Counted x = new Counted();
         x.levels(2);
         x.level(0, 2, 3);
         x.level(1, 4, 6);
@@ -344,8 +334,8 @@ public final class PromiseTest {
     // Promise 9
 
     private static void time() {
-        part = "9 time";
-        FeedbackQueues x = new FeedbackQueues();
+        part("9 time");
+        Counted x = new Counted();
         due("at first", 0, x.time());
         x.run(0);
         due("after none", 0, x.time());
@@ -362,8 +352,8 @@ public final class PromiseTest {
     // Promise 10
 
     private static void told() {
-        part = "10 told";
-        FeedbackQueues x = new FeedbackQueues();
+        part("10 told");
+        Counted x = new Counted();
         x.levels(2);
         x.level(0, 5, 2);
         x.level(1, 6, 100);
@@ -391,8 +381,8 @@ public final class PromiseTest {
     }
 
     private static void toldWrong() {
-        part = "10 told, wrong";
-        FeedbackQueues x = new FeedbackQueues();
+        part("10 told, wrong");
+        Counted x = new Counted();
         refused("told(0, 0)", INDEX, () -> x.told(0, 0));
         x.process(0);
         refused("told(-1, 0)", INDEX, () -> x.told(-1, 0));
@@ -405,8 +395,8 @@ public final class PromiseTest {
     // Promise 11
 
     private static void running() {
-        part = "11 running";
-        FeedbackQueues x = new FeedbackQueues();
+        part("11 running");
+        Counted x = new Counted();
         x.level(0, 2, 10);
         addProcess(x, 1, 3);
         addProcess(x, 1, 3);
@@ -420,8 +410,8 @@ public final class PromiseTest {
     // Promise 12
 
     private static void queued() {
-        part = "12 queued";
-        FeedbackQueues x = new FeedbackQueues();
+        part("12 queued");
+        Counted x = new Counted();
         x.levels(2);
         x.level(0, 3, 3);
         for (int i = 0; i < 16; i++) {
@@ -446,8 +436,8 @@ public final class PromiseTest {
     // Promise 13
 
     private static void all() {
-        part = "13 all";
-        FeedbackQueues x = new FeedbackQueues();
+        part("13 all");
+        Counted x = new Counted();
         x.period(4);
         addProcess(x, 2, 2, 3);
         addProcess(x, 2);
@@ -463,8 +453,8 @@ public final class PromiseTest {
     // Promise 14
 
     private static void switched() {
-        part = "14 switched";
-        FeedbackQueues x = new FeedbackQueues();
+        part("14 switched");
+        Counted x = new Counted();
         addProcess(x, 3, 300);
         addProcess(x, 3, 300);
         x.run(3);
@@ -489,8 +479,8 @@ public final class PromiseTest {
     // The steps of a tick
 
     private static void quantumEnds() {
-        part = "step 6, quantum";
-        FeedbackQueues x = new FeedbackQueues();
+        part("step 6, quantum");
+        Counted x = new Counted();
         x.level(0, 2, 1000);
         addProcess(x, 0, 5);
         addProcess(x, 0, 3);
@@ -501,8 +491,8 @@ public final class PromiseTest {
     }
 
     private static void shareEnds() {
-        part = "step 6, share";
-        FeedbackQueues x = new FeedbackQueues();
+        part("step 6, share");
+        Counted x = new Counted();
         x.levels(3);
         x.level(0, 2, 3);
         x.level(1, 4, 4);
@@ -521,8 +511,8 @@ public final class PromiseTest {
     }
 
     private static void frontKeepsQuantum() {
-        part = "step 4";
-        FeedbackQueues x = new FeedbackQueues();
+        part("step 4");
+        Counted x = new Counted();
         x.levels(2);
         x.level(0, 5, 2);
         x.level(1, 6, 100);
@@ -539,8 +529,8 @@ public final class PromiseTest {
     }
 
     private static void blockedKeepsLevelAndShare() {
-        part = "step 6, blocked";
-        FeedbackQueues x = new FeedbackQueues();
+        part("step 6, blocked");
+        Counted x = new Counted();
         x.levels(2);
         x.level(0, 10, 3);
         x.level(1, 10, 10);
@@ -557,8 +547,8 @@ public final class PromiseTest {
     }
 
     private static void shareUsedUpBeforeBlocked() {
-        part = "step 6, share used up";
-        FeedbackQueues x = new FeedbackQueues();
+        part("step 6, share used up");
+        Counted x = new Counted();
         x.levels(2);
         x.level(0, 10, 3);
         x.level(1, 10, 10);
@@ -574,8 +564,8 @@ public final class PromiseTest {
     }
 
     private static void arrivalsBeforeThoseThatComeBack() {
-        part = "steps 2 and 3";
-        FeedbackQueues x = new FeedbackQueues();
+        part("steps 2 and 3");
+        Counted x = new Counted();
         addProcess(x, 1, 1, 2, 1);
         addProcess(x, 0, 1, 3, 1);
         addProcess(x, 4, 1);
@@ -584,8 +574,8 @@ public final class PromiseTest {
     }
 
     private static void endedByTheDevice() {
-        part = "step 3, ended";
-        FeedbackQueues x = new FeedbackQueues();
+        part("step 3, ended");
+        Counted x = new Counted();
         addProcess(x, 0, 1, 3);
         x.run(4);
         due("blocked", 3, x.told(0, 0));
@@ -597,8 +587,8 @@ public final class PromiseTest {
     }
 
     private static void runningOneComesUp() {
-        part = "step 1, running";
-        FeedbackQueues x = new FeedbackQueues();
+        part("step 1, running");
+        Counted x = new Counted();
         x.levels(2);
         x.level(0, 3, 4);
         x.level(1, 8, 50);
@@ -622,8 +612,8 @@ public final class PromiseTest {
     }
 
     private static void readyOnesComeUpInOrder() {
-        part = "step 1, ready";
-        FeedbackQueues x = new FeedbackQueues();
+        part("step 1, ready");
+        Counted x = new Counted();
         x.levels(3);
         x.period(5);
         addProcess(x, 0, 20);
@@ -644,8 +634,8 @@ public final class PromiseTest {
     }
 
     private static void blockedOnesComeUp() {
-        part = "step 1, blocked";
-        FeedbackQueues x = new FeedbackQueues();
+        part("step 1, blocked");
+        Counted x = new Counted();
         x.levels(2);
         x.level(0, 4, 2);
         x.level(1, 4, 9);
@@ -668,8 +658,8 @@ public final class PromiseTest {
     }
 
     private static void frontQuantumAfterComingUp() {
-        part = "step 1, put to the front";
-        FeedbackQueues x = new FeedbackQueues();
+        part("step 1, put to the front");
+        Counted x = new Counted();
         x.levels(2);
         x.level(0, 5, 3);
         x.level(1, 4, 100);
@@ -684,8 +674,8 @@ public final class PromiseTest {
     }
 
     private static void frontQuantumIsCutWhenComingUp() {
-        part = "step 1, not more than level 0's";
-        FeedbackQueues x = new FeedbackQueues();
+        part("step 1, not more than level 0's");
+        Counted x = new Counted();
         x.levels(2);
         x.level(0, 2, 3);
         x.level(1, 9, 100);
@@ -702,8 +692,8 @@ public final class PromiseTest {
     }
 
     private static void frontQuantumIsUsedOnce() {
-        part = "step 5";
-        FeedbackQueues x = new FeedbackQueues();
+        part("step 5");
+        Counted x = new Counted();
         x.levels(2);
         x.level(0, 1, 1);
         x.level(1, 3, 100);
@@ -715,8 +705,8 @@ public final class PromiseTest {
     }
 
     private static void frontOfLongerQueue() {
-        part = "step 4, longer queue";
-        FeedbackQueues x = new FeedbackQueues();
+        part("step 4, longer queue");
+        Counted x = new Counted();
         x.levels(2);
         x.level(0, 2, 2);
         x.level(1, 6, 100);
@@ -734,8 +724,8 @@ public final class PromiseTest {
     }
 
     private static void fullHouse() {
-        part = "all levels, all processes";
-        FeedbackQueues x = new FeedbackQueues();
+        part("all levels, all processes");
+        Counted x = new Counted();
         x.levels(6);
         x.period(90);
         for (int i = 0; i < 16; i++) {
@@ -754,105 +744,5 @@ public final class PromiseTest {
         }
         due("idle", 1000 - 37, x.run(1000));
         allDue(x, 128, 1000 - 37, 12, 16);
-    }
-
-    // What the tests are written with
-
-    private static int addProcess(FeedbackQueues x, int arrival, int... bursts) {
-        int number = x.process(arrival);
-        for (int ticks : bursts) {
-            x.burst(number, ticks);
-        }
-        return number;
-    }
-
-    /** Who ran in each of so many ticks, a character each; a dot when none did. */
-    private static String timeline(FeedbackQueues x, int ticks) {
-        StringBuilder text = new StringBuilder();
-        for (int i = 0; i < ticks; i++) {
-            int[] before = ticksRun(x);
-            x.run(1);
-            int[] after = ticksRun(x);
-            char who = '.';
-            for (int p = 0; p < after.length; p++) {
-                who = after[p] > before[p] ? Character.forDigit(p, 16) : who;
-            }
-            text.append(who);
-        }
-        return text.toString();
-    }
-
-    private static int[] ticksRun(FeedbackQueues x) {
-        int[] ticks = new int[countOf(x)];
-        for (int p = 0; p < ticks.length; p++) {
-            ticks[p] = x.told(p, 2);
-        }
-        return ticks;
-    }
-
-    private static int countOf(FeedbackQueues x) {
-        for (int p = 0; p < 16; p++) {
-            try {
-                x.told(p, 0);
-            } catch (IndexOutOfBoundsException e) {
-                return p;
-            }
-        }
-        return 16;
-    }
-
-    private static String stateOf(FeedbackQueues x) {
-        StringBuilder text = new StringBuilder();
-        text.append(x.time()).append(' ').append(x.running());
-        for (int p = 0; p < countOf(x); p++) {
-            for (int what = 0; what < 10; what++) {
-                text.append(' ').append(x.told(p, what));
-            }
-        }
-        for (int what = 0; what < 4; what++) {
-            text.append(' ').append(x.all(what));
-        }
-        for (int k = 0; k < x.all(0); k++) {
-            text.append(' ').append(x.switched(k));
-        }
-        return text.toString();
-    }
-
-    private static void timelineDue(FeedbackQueues x, String want) {
-        int from = x.time();
-        sameText("timeline from tick " + from, want, timeline(x, want.length()));
-    }
-
-    private static void toldDue(FeedbackQueues x, int process, int... want) {
-        for (int what = 0; what < 10; what++) {
-            due("told(" + process + ", " + what + ") at " + x.time(), want[what], x.told(process, what));
-        }
-    }
-
-    private static void allDue(FeedbackQueues x, int... want) {
-        for (int what = 0; what < 4; what++) {
-            due("all(" + what + ") at " + x.time(), want[what], x.all(what));
-        }
-    }
-
-    private static void due(String what, int want, int got) {
-        sameText(what, Integer.toString(want), Integer.toString(got));
-    }
-
-    private static void refused(String what, Class<?> want, Call call) {
-        String got;
-        try {
-            got = Integer.toString(call.answer());
-        } catch (RuntimeException e) {
-            got = e.getClass().getSimpleName();
-        }
-        sameText(what, want.getSimpleName(), got);
-    }
-
-    private static void sameText(String what, String want, String got) {
-        if (!want.equals(got)) {
-            wrong++;
-            System.out.println(part + ": " + what + " answered " + got + ", due is " + want);
-        }
     }
 }
