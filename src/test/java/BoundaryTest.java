@@ -243,12 +243,6 @@ public final class BoundaryTest extends Checks {
         timelineDue(x, "010101");
         x.run(30000);
         due("came up", 0, x.all(2));
-        // With share 1 it is used up in each tick, which only a longer quantum lets be seen.
-        Counted other = new Counted();
-        other.level(0, 2, 1);
-        addProcess(other, 0, 3);
-        addProcess(other, 0, 3);
-        timelineDue(other, "010101");
     }
 
     // Promise 2
